@@ -608,10 +608,6 @@ public final class GriefCranes {
             return NOBODY;
         }
 
-        int windNow() {
-            return winds[hour & 3];
-        }
-
         int power(int crane, int thing) {
             int kind = kindNumbers[crane];
             facts[0] = crane;
@@ -644,7 +640,7 @@ public final class GriefCranes {
         }
 
         private void swingOn(int crane, int thing) {
-            swings[thing] = Math.min(SWING_MOST, swings[thing] + windNow());
+            swings[thing] = Math.min(SWING_MOST, swings[thing] + winds[hour & 3]);
             times[thing]++;
             if (swings[thing] > firm.bear) {
                 states[thing] = FALLEN;
@@ -759,19 +755,19 @@ public final class GriefCranes {
         // Each of these reads one part and says whether it is there; if not, at is the FAULT.
 
         private boolean clause() {
-            switch (next()) {
-                case 's': return amount("strong") && weighed(STRONG);
-                case 'w': return amount("weak") && weighed(WEAK);
-                case 'b':
-                    if (!amount("bear")) return false;
-                    bear = number;
-                    return true;
-                case 'h':
-                    if (!amount("hang")) return false;
-                    hang = number;
-                    return true;
-                default: return false;
+            int first = next();
+            if (first == 'b' || first == 'h') {
+                if (!amount(first == 'b' ? "bear" : "hang")) return false;
+                if (first == 'b') bear = number;
+                else hang = number;
+                return true;
             }
+            if (first != 's' && first != 'w') return false;
+            if (!amount(first == 's' ? "strong" : "weak")) return false;
+            int n = number;
+            if (!sign(' ') || !either(0)) return false;
+            addStep(first == 's' ? STRONG : WEAK, 0, n);
+            return true;
         }
 
         private boolean amount(String word) {
@@ -779,13 +775,6 @@ public final class GriefCranes {
                 if (!sign(word.charAt(i))) return false;
             }
             return sign(' ') && readNumber();
-        }
-
-        private boolean weighed(int how) {
-            int n = number;
-            if (!sign(' ') || !either(0)) return false;
-            addStep(how, 0, n);
-            return true;
         }
 
         private boolean either(int within) {
@@ -957,7 +946,7 @@ public final class GriefCranes {
 
     private static class Steady extends Crane {
         int power(int sum, Yard yard, int crane, int thing) {
-            return yard.windNow() > yard.vs[crane] ? 0 : sum;
+            return yard.winds[yard.hour & 3] > yard.vs[crane] ? 0 : sum;
         }
 
         int tells(int x) {

@@ -10,6 +10,7 @@ public final class FirmTest {
         expressions();
         nesting();
         letters();
+        lettersOfKinds();
         weighing();
         joining();
         theLastBearAndHang();
@@ -173,6 +174,15 @@ public final class FirmTest {
         for (String test : not) due.is("10: " + test, weighed("strong 9 " + test, 14), 0);
     }
 
+    private static void lettersOfKinds() {
+        GriefCranes x = Make.with("strong 1 k=1;strong 2 k=4;strong 4 p=1;strong 8 v>3");
+        x.crane(4, 3);
+        x.crane(1, 4);
+        x.thing(0, -1);
+        due.is("10: of a GIANT", x.of(0, 10), 30 + 2 + 3);
+        due.is("10: of a JIB", x.of(1, 10), 30 + 1 + 4 + 8 + 4);
+    }
+
     private static void weighing() {
         due.is("10: strong", weighed("strong 12 p=1", 0), 12);
         due.is("10: weak", weighed("weak 12 p=1", 0), -12);
@@ -201,6 +211,13 @@ public final class FirmTest {
         due.is("10: the third", Make.firm(x, "hang 0"), 2);
         due.is("11: bear without", x.told(1), 12);
         due.is("11: hang 0", x.told(2), 0);
+        due.is("10: a FAULT behind both", Make.firm(x, "bear 4;hang 5;strong 7 p=0;!"), -37);
+        due.is("10: neither was there", Make.firm(x, "weak 1 p=9"), 3);
+        due.is("11: bear without again", x.told(1), 12);
+        due.is("11: hang without again", x.told(2), 2);
+        x.crane(0, 0);
+        x.thing(0, -1);
+        due.is("10: nor its strong", x.of(0, 10), 30);
     }
 
     private static void firmsCome() {

@@ -13,6 +13,7 @@ public final class HoursTest {
         on();
         down();
         sent();
+        sentAtTheLast();
         change();
         changeOfSeveral();
         crew();
@@ -225,6 +226,16 @@ public final class HoursTest {
         due.is("5: DOWN of one FALLEN", x.load(1, 5), -5);
     }
 
+    private static void sentAtTheLast() {
+        GriefCranes x = Make.with("bear 99;hang 59");
+        Make.winds(x, 0, 0, 0, 0);
+        x.crane(0, 0);
+        x.thing(1, -1);
+        due.is("6: DOWN would be 60", x.load(0, 6), 0);
+        Make.firm(x, "bear 99;hang 60");
+        due.is("6: DOWN would be 61", x.load(0, 6), -5);
+    }
+
     private static void sent() {
         GriefCranes x = new GriefCranes();
         x.crane(0, 0);
@@ -263,6 +274,7 @@ public final class HoursTest {
         due.is("14: one that falls for one too heavy", x.best(20, 0), 1);
         due.is("14: it does not fall so soon", x.best(3, 0), -5);
         due.is("14: just then it does", x.best(4, 0), 1);
+        due.is("14: 1 HOUR", x.best(1, 0), -5);
         due.is("14: NONE: what -1", x.best(1, -1), -1);
         due.is("14: NONE: what 2", x.best(1, 2), -1);
         due.is("14: NONE ahead of BAD", x.best(0, 2), -1);
@@ -316,6 +328,7 @@ public final class HoursTest {
         due.is("14: CREW 1", x.best(12, 1), 2);
         due.is("14: nothing is LAID so soon", x.best(2, 1), 0);
         due.is("14: LAID by the third", x.best(3, 1), 2);
+        due.is("14: 1 HOUR", x.best(1, 1), 0);
         x.thing(10, 2);
         x.thing(10, 2);
         due.is("14: CREW 1 and 2", x.best(12, 1), 6);

@@ -7,6 +7,7 @@ public final class ImageTest {
         allIsAsTheImage();
         whatIsNotOfTheImage();
         cranesAnew();
+        whatIsToldByHand();
         theFirmThatHolds();
         again();
         due.end();
@@ -98,6 +99,7 @@ public final class ImageTest {
         GriefCranes x = new GriefCranes();
         x.image();
         x.crane(6, 1);
+        x.row(0, 0, 5);
         x.row(0, 1, 9);
         x.thing(0, -1);
         x.thing(3, 0);
@@ -110,10 +112,46 @@ public final class ImageTest {
         x.thing(40, -1);
         due.is("25: another has no LIFTS", x.of(0, 2), 0);
         due.is("25: another has a ROW of 0", x.of(0, 11), 30);
+        due.is("25: from the first part on", x.of(0, 10), 30);
         due.is("25: another THING is STANDING", x.load(1, 2), 0);
         due.is("25: another THING is without SWING", x.load(1, 3), 0);
         due.is("25: another THING is without TIME", x.load(1, 4), 0);
         due.is("25: another THING has no CRANE", x.load(1, 1), -5);
+    }
+
+    private static void whatIsToldByHand() {
+        GriefCranes x = new GriefCranes();
+        x.crane(0, 0);
+        x.thing(10, 0);
+        x.thing(20, 0);
+        x.see(0, 3, 2);
+        x.see(1, 12, 2);
+        x.plan(0, 0);
+        x.plan(2, 1);
+        x.plan(0, 0);
+        x.plan(0, 0);
+        x.book(0, 10);
+        x.book(1, 20);
+        x.book(0, 11);
+        x.image();
+        x.see(-1, 0, 0);
+        x.see(1, 1, 1);
+        x.see(0, 1, 3);
+        x.plan(-1, 0);
+        x.plan(3, 0);
+        x.plan(1, 0);
+        x.plan(2, 0);
+        x.plan(2, 0);
+        x.book(-1, 0);
+        x.book(1, 9);
+        x.book(0, 10);
+        due.is("25: GRIEFS of other rows", x.load(0, 7), 0);
+        due.is("25: ENDS of another PLAN", x.ends(0), 0);
+        due.is("25: LOOKED at in another BOOK", x.looked(), 0);
+        x.undo();
+        due.is("25: GRIEFS of SEEN", x.load(0, 7), 31);
+        due.is("25: ENDS of the PLAN", x.ends(0), 1);
+        due.is("25: LOOKED at in the BOOK", x.looked(), 2);
     }
 
     private static void theFirmThatHolds() {

@@ -19,6 +19,8 @@ public final class PlansTest {
         due.is("19: none came", x.count(4), 0);
         due.is("19: an HOUR needs no THING", x.plan(0, -9), 1);
         x.thing(1, -1);
+        due.is("19: what 4 with a THING", x.plan(4, 0), -1);
+        due.is("19: what -2 with a THING", x.plan(-2, 0), -1);
         due.is("19: SWING", x.plan(1, 0), 2);
         due.is("19: no CRANE", x.plan(2, 0), 3);
         due.is("19: STANDING", x.plan(3, 0), 4);

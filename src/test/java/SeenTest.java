@@ -221,5 +221,10 @@ public final class SeenTest {
         x.pass(1);
         due.is("18: HUNG is not STANDING, above", x.mean(0), 139);
         due.is("18: HUNG is not STANDING, below", x.mean(1), 7);
+        GriefCranes y = new GriefCranes();
+        y.thing(10, -1);
+        y.thing(15, -1);
+        due.is("18: 25 of two, above", y.mean(0), 25);
+        due.is("18: 25 of two, below", y.mean(1), 2);
     }
 }

@@ -53,6 +53,8 @@ public final class TapesTest {
         due.is("23: one is so", y.judge(0, 0), -5);
         y.tape(1, 1, 9);
         due.is("23: shorts", y.judge(1, 0), -12);
+        y.tape(5, 0, 1);
+        due.is("23: the last TAPE", y.judge(5, 0), 0);
         GriefCranes z = row(256 + 50, -206);
         z.thing(50, -1);
         z.thing(50, -1);
@@ -97,6 +99,7 @@ public final class TapesTest {
         due.is("30: nothing came", x.item(0, 0, 0), -11);
         for (int tape = 0; tape < 6; tape++) due.is("30: a row", x.tape(tape, tape % 5, 60), 1);
         due.is("30: the last item", x.item(5, 59, 7), 1);
+        due.is("30: the first item", x.item(5, 0, 7), 1);
         due.is("30: a row of none", x.tape(5, 3, 0), 1);
         due.is("30: it has no place", x.item(5, 0, 7), -13);
         x.tape(5, 3, 60);
@@ -168,6 +171,10 @@ public final class TapesTest {
         due.is("33: n", x.shift(0, 1, 1, 0, 2), 2);
         holds("33: come", x, 1, 2, 3, 0);
         holds("33: stay", x, 0, 1, 2, 3, 4, 5);
+        x.tape(5, 0, 1);
+        due.is("33: to the last TAPE", x.shift(0, 3, 5, 0, 1), 1);
+        due.is("33: from the last TAPE", x.shift(5, 0, 1, 2, 1), 1);
+        holds("33: there and back", x, 1, 2, 3, 4);
         due.is("33: none", x.shift(0, 5, 1, 3, 0), 0);
         due.is("33: to the end", x.shift(0, 2, 1, 0, 3), 3);
         holds("33: all three", x, 1, 3, 4, 5);
