@@ -31,6 +31,7 @@ public final class GriefCranes {
     /** Where all that is only asked goes on, so that now stays as it is. */
     private final Yard trial;
     private final Yard imageYard;
+    /** SEEN in columns: THING, HOURS from now, STATE; the PLAN: what, THING; the BOOK: THING, GRIEF. */
     private final Rows seen = new Rows(SEEN_MOST), imageSeen = new Rows(SEEN_MOST);
     private final Rows plans = new Rows(PLAN_MOST), imagePlans = new Rows(PLAN_MOST);
     private final Rows books = new Rows(BOOK_MOST), imageBooks = new Rows(BOOK_MOST);
@@ -596,14 +597,14 @@ public final class GriefCranes {
         int bitsOf(int state) {
             int bits = 0;
             for (int t = 0; t < things; t++) {
-                if (isIn(t, state)) bits |= 1 << t;
+                if (states[t] == state) bits |= 1 << t;
             }
             return bits;
         }
 
         int hungBy(int crane) {
             for (int t = 0; t < things; t++) {
-                if (isIn(t, HUNG) && sents[t] == crane) return t;
+                if (states[t] == HUNG && sents[t] == crane) return t;
             }
             return NOBODY;
         }
@@ -632,7 +633,7 @@ public final class GriefCranes {
 
         private void hangFirst(int crane) {
             for (int t = 0; t < things; t++) {
-                if (!isIn(t, STANDING) || sents[t] != crane) continue;
+                if (states[t] != STANDING || sents[t] != crane) continue;
                 if (power(crane, t) < griefs[t]) continue;
                 setFresh(t, HUNG);
                 return;
