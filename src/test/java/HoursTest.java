@@ -359,7 +359,7 @@ public final class HoursTest {
         x.plan(3, 1);
         x.book(1, 6);
         x.pass(2);
-        String before = Make.state(x);
+        String before = Make.inside(x);
         x.on(60, 0);
         x.on(60, 10);
         x.best(20, 0);
@@ -375,6 +375,6 @@ public final class HoursTest {
         x.looked();
         x.judge(0, 0);
         x.taken(0, 0);
-        due.holds("13: what is asked changes nothing", before.equals(Make.state(x)));
+        due.holds("13: what is asked changes nothing", before.equals(Make.inside(x)));
     }
 }
