@@ -813,6 +813,7 @@ public final class GriefCranes {
             int letter = placeIn(LETTERS);
             if (letter < 0) return false;
             at++;
+            // in the order of LESS, SAME, MORE
             int how = placeIn("<=>");
             if (how < 0) return false;
             at++;
