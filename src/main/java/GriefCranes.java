@@ -1,6 +1,7 @@
 /** Cranes that lift griefs, hour by hour. The document's numbered promises say what each call answers. */
 public final class GriefCranes {
     public static final int NONE = -1, BAD = -2, STATE = -3, FULL = -4;
+    /** There is no such number. */
     public static final long NO = Long.MIN_VALUE;
 
     /** What stands for NONE where an answer may be below 0 by itself. */
@@ -778,23 +779,20 @@ public final class GriefCranes {
             return sign(' ') && readNumber();
         }
 
+        /** T or T|E, each T an F or F&T: as & binds closer, an OR waits until all F behind it are joined. */
         private boolean either(int within) {
-            if (!both(within)) return false;
-            for (int i = 0; i < length && next() == '|'; i++) {
-                at++;
-                if (!both(within)) return false;
-                addStep(OR, 0, 0);
-            }
-            return true;
-        }
-
-        private boolean both(int within) {
             if (!single(within)) return false;
-            for (int i = 0; i < length && next() == '&'; i++) {
+            boolean orWaits = false;
+            for (int i = 0; i < length; i++) {
+                int joins = next();
+                if (joins != '&' && joins != '|') break;
+                if (joins == '|' && orWaits) addStep(OR, 0, 0);
+                if (joins == '|') orWaits = true;
                 at++;
                 if (!single(within)) return false;
-                addStep(AND, 0, 0);
+                if (joins == '&') addStep(AND, 0, 0);
             }
+            if (orWaits) addStep(OR, 0, 0);
             return true;
         }
 

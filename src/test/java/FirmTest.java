@@ -13,6 +13,8 @@ public final class FirmTest {
         lettersOfKinds();
         weighing();
         joining();
+        chains();
+        deepest();
         theLastBearAndHang();
         firmsCome();
         telling();
@@ -199,6 +201,49 @@ public final class FirmTest {
             "!(p=0|p=1)", "p=0|p=0|p=0", "p=1&p=1&p=0", "p=0&p=1&p=1", "!p=0&p=0", "p=0&(p=1|p=1)", "p=1&!(p=1&p=1)"};
         for (String e : so) due.is("10: " + e, weighed("strong 9 " + e, 0), 9);
         for (String e : not) due.is("10: " + e, weighed("strong 9 " + e, 0), 0);
+    }
+
+    /** Each chain of one to five F, with each way to join them by & and | and each of them so or not. */
+    private static void chains() {
+        for (int many = 1; many <= 5; many++) {
+            for (int joins = 0; joins < 1 << many - 1; joins++) {
+                for (int so = 0; so < 1 << many; so++) chain(many, joins, so);
+            }
+        }
+    }
+
+    private static void chain(int many, int joins, int so) {
+        StringBuilder e = new StringBuilder();
+        boolean any = false;
+        boolean all = true;
+        for (int i = 0; i < many; i++) {
+            boolean or = i > 0 && (joins >> i - 1 & 1) == 1;
+            if (i > 0) e.append(or ? '|' : '&');
+            if (or) {
+                any |= all;
+                all = true;
+            }
+            all &= (so >> i & 1) == 1;
+            e.append(i % 2 == 0 ? "p=" : "!p=").append((so >> i & 1) == (i + 1) % 2 ? 1 : 0);
+        }
+        int due9 = any || all ? 9 : 0;
+        due.is("10: " + e, weighed("strong 9 " + e, 0), due9);
+        due.is("10: !(" + e + ")", weighed("strong 9 !(" + e + ")", 0), 9 - due9);
+        due.is("10: p=0|(" + e + ")&p=1", weighed("strong 9 p=0|(" + e + ")&p=1", 0), due9);
+    }
+
+    /** As many answers as there can be wait to be joined: within four others, two at each. */
+    private static void deepest() {
+        String open = "p=0|p=1&(";
+        String four = open + open + open + open;
+        due.is("10: deepest, so", weighed("strong 9 " + four + "p=0|p=1&p=1))))", 0), 9);
+        due.is("10: deepest, not so", weighed("strong 9 " + four + "p=0|p=1&p=0))))", 0), 0);
+        for (int level = 0; level < 4; level++) {
+            String without = open.repeat(level) + "p=0|p=0&(" + open.repeat(3 - level);
+            due.is("10: ended by & at " + level, weighed("strong 9 " + without + "p=0|p=1&p=1))))", 0), 0);
+            String with = open.repeat(level) + "p=1|p=0&(" + open.repeat(3 - level);
+            due.is("10: held by | at " + level, weighed("strong 9 " + with + "p=0|p=1&p=0))))", 0), 9);
+        }
     }
 
     private static void theLastBearAndHang() {
